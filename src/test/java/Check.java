@@ -1,0 +1,40 @@
+/** Counts and prints the calls whose answer is not the one that is due. */
+final class Check {
+    private int wrong;
+
+    void same(String call, int got, int due) {
+        if (got != due) {
+            wrong++;
+            System.out.println(call + " answered " + got + ", due is " + due);
+        }
+    }
+
+    void same(String call, boolean got, boolean due) {
+        if (got != due) {
+            wrong++;
+            System.out.println(call + " answered " + got + ", due is " + due);
+        }
+    }
+
+    /** The row is due: kind, sender, receiver, ballot, slot, number, ballot of what a promise tells. */
+    void message(String when, SlotPaxos x, int i, int... row) {
+        for (int what = 0; what < 7; what++) {
+            same(when + ": message(" + i + ", " + what + ")", x.message(i, what), row[what]);
+        }
+    }
+
+    void replica(String when, SlotPaxos x, int r, int what, int due) {
+        same(when + ": replica(" + r + ", " + what + ")", x.replica(r, what), due);
+    }
+
+    void inFlight(String when, SlotPaxos x, int due) {
+        same(when + ": look(2)", x.look(2), due);
+    }
+
+    void end() {
+        System.out.println(wrong == 0 ? "all answers are as due" : wrong + " answers are not as due");
+        if (wrong != 0) {
+            System.exit(1);
+        }
+    }
+}
