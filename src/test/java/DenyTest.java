@@ -1,0 +1,62 @@
+/** Promise 4: what a DENY does. */
+public final class DenyTest {
+    private static final Check check = new Check();
+
+    public static void main(String[] args) {
+        endsACandidate();
+        endsALeader();
+        leavesOneOfAGreaterBallot();
+        check.end();
+    }
+
+    private static void endsACandidate() {
+        SlotPaxos x = new SlotPaxos(3, 2);
+        x.request(2, 5);
+        x.tick(2);
+        Drive.bring(x, Drive.PREPARE, 2, 0);
+        x.request(1, 6);
+        x.tick(1);
+        Drive.bring(x, Drive.PREPARE, 1, 0);
+        Drive.bring(x, Drive.DENY, 0, 1);
+        int[] due = {1, 0, 0, 0, 1, -1, 0, 0, 0, 0, 2, 1, 0};
+        for (int what = 0; what < due.length; what++) {
+            check.replica("a candidate becomes follower", x, 1, what, due[what]);
+        }
+        x.tick(1);
+        check.replica("the next ballot is above what it has seen", x, 1, 8, 4);
+    }
+
+    private static void endsALeader() {
+        SlotPaxos x = new SlotPaxos(3, 2);
+        Drive.lead(x, 1, 5, 0);
+        x.request(2, 6);
+        x.tick(2);
+        Drive.bring(x, Drive.PREPARE, 2, 0);
+        Drive.bring(x, Drive.ACCEPT, 1, 0);
+        Drive.bring(x, Drive.DENY, 0, 1);
+        int[] due = {1, 0, 0, 0, 1, 1, 5, 0, 0, 0, 2, 1, 0};
+        for (int what = 0; what < due.length; what++) {
+            check.replica("a leader becomes follower", x, 1, what, due[what]);
+        }
+    }
+
+    private static void leavesOneOfAGreaterBallot() {
+        SlotPaxos x = new SlotPaxos(3, 2);
+        x.request(2, 5);
+        x.tick(2);
+        Drive.bring(x, Drive.PREPARE, 2, 0);
+        x.request(1, 6);
+        x.tick(1);
+        Drive.bring(x, Drive.PREPARE, 1, 0);
+        x.turn(1, false);
+        x.turn(1, true);
+        x.request(1, 6);
+        x.tick(1);
+        check.replica("a later ballot", x, 1, 8, 4);
+        Drive.bring(x, Drive.DENY, 0, 1);
+        check.replica("still candidate", x, 1, 7, 1);
+        check.replica("still of it", x, 1, 8, 4);
+        check.replica("who has answered", x, 1, 9, 2);
+        check.replica("SEEN by the deny", x, 1, 10, 2);
+    }
+}

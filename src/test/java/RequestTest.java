@@ -1,0 +1,73 @@
+/** Promise 2. */
+public final class RequestTest {
+    private static final Check check = new Check();
+
+    public static void main(String[] args) {
+        takesUpToEight();
+        refusesWrongNumbers();
+        refusesWrongReplicas();
+        refusesWhenDown();
+        takesTheSameAgain();
+        check.end();
+    }
+
+    private static void takesUpToEight() {
+        SlotPaxos x = new SlotPaxos(3, 2);
+        for (int i = 0; i < 8; i++) {
+            check.same("request " + i, x.request(1, 10 + i), true);
+            check.replica("request " + i, x, 1, 11, i + 1);
+        }
+        check.same("the ninth request", x.request(1, 99), false);
+        check.replica("the ninth request", x, 1, 11, 8);
+        for (int i = 0; i < 8; i++) {
+            check.same("waiting(1, " + i + ")", x.waiting(1, i), 10 + i);
+        }
+        check.replica("request at 1", x, 0, 11, 0);
+        check.inFlight("request sends nothing", x, 0);
+        check.same("a request of another replica", x.request(0, 99), true);
+    }
+
+    private static void refusesWrongNumbers() {
+        SlotPaxos x = new SlotPaxos(3, 2);
+        check.same("request(0, 0)", x.request(0, 0), false);
+        check.same("request(0, -1)", x.request(0, -1), false);
+        check.same("request(0, MIN)", x.request(0, Integer.MIN_VALUE), false);
+        check.replica("refused", x, 0, 11, 0);
+        check.same("request(0, 1)", x.request(0, 1), true);
+        check.same("request(0, MAX)", x.request(0, Integer.MAX_VALUE), true);
+        check.same("waiting(0, 1)", x.waiting(0, 1), Integer.MAX_VALUE);
+    }
+
+    private static void refusesWrongReplicas() {
+        SlotPaxos x = new SlotPaxos(4, 2);
+        for (int r : new int[] {-1, 4, 5, Integer.MIN_VALUE, Integer.MAX_VALUE}) {
+            check.same("request(" + r + ", 1)", x.request(r, 1), false);
+        }
+        check.same("request(3, 1)", x.request(3, 1), true);
+    }
+
+    private static void refusesWhenDown() {
+        SlotPaxos x = new SlotPaxos(3, 2);
+        x.turn(2, false);
+        check.same("request of one that is down", x.request(2, 1), false);
+        x.turn(2, true);
+        check.replica("up again", x, 2, 11, 0);
+        check.same("request of one that is up again", x.request(2, 1), true);
+    }
+
+    private static void takesTheSameAgain() {
+        SlotPaxos x = new SlotPaxos(3, 2);
+        check.same("request", x.request(0, 5), true);
+        check.same("request of the same", x.request(0, 5), true);
+        check.replica("both wait", x, 0, 11, 2);
+        x.tick(0);
+        Drive.settle(x);
+        check.replica("one slot, and both are gone", x, 0, 1, 1);
+        check.replica("one slot, and both are gone", x, 0, 11, 0);
+        check.same("request of one that was learned", x.request(0, 5), true);
+        x.tick(0);
+        Drive.settle(x);
+        check.replica("it is learned once more", x, 0, 1, 2);
+        check.same("slot(0, 2)", x.slot(0, 2), 5);
+    }
+}
