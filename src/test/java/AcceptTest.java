@@ -19,9 +19,7 @@ public final class AcceptTest {
         Drive.bring(x, Drive.ACCEPT, 1, 2);
         check.message("accepted", x, x.look(2) - 1, 4, 2, 1, 1, 1, 0, 0);
         int[] due = {1, 0, 0, 0, 1, 1, 5, 0, 0, 0, 1, 0, 0};
-        for (int what = 0; what < due.length; what++) {
-            check.replica("accepted", x, 2, what, due[what]);
-        }
+        check.replica("accepted", x, 2, due);
     }
 
     private static void isAcceptedAgain() {
@@ -65,9 +63,7 @@ public final class AcceptTest {
         Drive.lead(x, 2, 6, 0);
         Drive.bring(x, Drive.ACCEPT, 2, 1);
         int[] due = {1, 0, 0, 0, 2, 2, 6, 0, 0, 0, 2, 1, 0};
-        for (int what = 0; what < due.length; what++) {
-            check.replica("a candidate becomes follower", x, 1, what, due[what]);
-        }
+        check.replica("a candidate becomes follower", x, 1, due);
         Drive.loseAll(x);
 
         SlotPaxos y = new SlotPaxos(3, 2);
@@ -77,9 +73,7 @@ public final class AcceptTest {
         check.replica("two leaders", y, 1, 7, 2);
         check.replica("two leaders", y, 2, 7, 2);
         Drive.bring(y, Drive.ACCEPT, 2, 1);
-        for (int what = 0; what < due.length; what++) {
-            check.replica("a leader becomes follower", y, 1, what, due[what]);
-        }
+        check.replica("a leader becomes follower", y, 1, due);
     }
 
     private static void asksWhenItLags() {

@@ -28,9 +28,7 @@ public final class AcceptedTest {
                 Drive.bring(x, Drive.ACCEPTED, other, 0);
             }
             int[] due = {1, 1, 7, 0, n, -1, 0, 2, n, 0, n, 0, 0};
-            for (int what = 0; what < due.length; what++) {
-                check.replica("learned of " + n, x, 0, what, due[what]);
-            }
+            check.replica("learned of " + n, x, 0, due);
             check.same("slot(0, 1)", x.slot(0, 1), 7);
             for (int to = 1; to < n; to++) {
                 check.message("chosen", x, x.look(2) - n + to, 5, 0, to, 0, 1, 7, 0);
@@ -57,9 +55,7 @@ public final class AcceptedTest {
         check.message("accept", x, 3, 3, 1, 0, 1, 2, 6, 0);
         check.message("accept", x, 4, 3, 1, 2, 1, 2, 6, 0);
         int[] due = {1, 1, 5, 0, 1, 1, 6, 2, 1, 2, 1, 2, 6};
-        for (int what = 0; what < due.length; what++) {
-            check.replica("the next is proposed", x, 1, what, due[what]);
-        }
+        check.replica("the next is proposed", x, 1, due);
     }
 
     private static void countsNobodyTwice() {

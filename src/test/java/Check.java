@@ -27,6 +27,13 @@ final class Check {
         same(when + ": replica(" + r + ", " + what + ")", x.replica(r, what), due);
     }
 
+    /** The row is due for what 0 to 12. */
+    void replica(String when, SlotPaxos x, int r, int[] row) {
+        for (int what = 0; what <= 12; what++) {
+            replica(when, x, r, what, row[what]);
+        }
+    }
+
     void inFlight(String when, SlotPaxos x, int due) {
         same(when + ": look(2)", x.look(2), due);
     }

@@ -21,9 +21,7 @@ public final class ChosenTest {
         Drive.bring(x, Drive.ACCEPTED, 2, 1);
         Drive.bring(x, Drive.CHOSEN, 1, 2);
         int[] due = {1, 1, 5, 0, 1, -1, 0, 0, 0, 0, 1, 0, 0};
-        for (int what = 0; what < due.length; what++) {
-            check.replica("learned", x, 2, what, due[what]);
-        }
+        check.replica("learned", x, 2, due);
         check.same("slot(2, 1)", x.slot(2, 1), 5);
     }
 
@@ -68,9 +66,7 @@ public final class ChosenTest {
         x.tick(2);
         Drive.bring(x, Drive.CHOSEN, 1, 2);
         int[] due = {1, 1, 5, 0, 2, -1, 0, 0, 0, 0, 0, 1, 0};
-        for (int what = 0; what < due.length; what++) {
-            check.replica("a candidate that learns", x, 2, what, due[what]);
-        }
+        check.replica("a candidate that learns", x, 2, due);
         check.same("waiting(2, 0)", x.waiting(2, 0), 6);
     }
 
@@ -89,9 +85,7 @@ public final class ChosenTest {
         int sent = x.look(3);
         Drive.bring(x, Drive.CHOSEN, 1, 2);
         int[] due = {1, 1, 5, 0, 2, -1, 0, 2, 2, 0, 2, 1, 0};
-        for (int what = 0; what < due.length; what++) {
-            check.replica("a leader that learns", x, 2, what, due[what]);
-        }
+        check.replica("a leader that learns", x, 2, due);
         check.same("it sends nothing yet", x.look(3), sent);
         x.tick(2);
         check.replica("it proposes at its next tick", x, 2, 12, 6);

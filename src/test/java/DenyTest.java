@@ -6,6 +6,7 @@ public final class DenyTest {
         endsACandidate();
         endsALeader();
         leavesOneOfAGreaterBallot();
+        leavesOneOfTheSameBallot();
         check.end();
     }
 
@@ -19,9 +20,7 @@ public final class DenyTest {
         Drive.bring(x, Drive.PREPARE, 1, 0);
         Drive.bring(x, Drive.DENY, 0, 1);
         int[] due = {1, 0, 0, 0, 1, -1, 0, 0, 0, 0, 2, 1, 0};
-        for (int what = 0; what < due.length; what++) {
-            check.replica("a candidate becomes follower", x, 1, what, due[what]);
-        }
+        check.replica("a candidate becomes follower", x, 1, due);
         x.tick(1);
         check.replica("the next ballot is above what it has seen", x, 1, 8, 4);
     }
@@ -35,9 +34,7 @@ public final class DenyTest {
         Drive.bring(x, Drive.ACCEPT, 1, 0);
         Drive.bring(x, Drive.DENY, 0, 1);
         int[] due = {1, 0, 0, 0, 1, 1, 5, 0, 0, 0, 2, 1, 0};
-        for (int what = 0; what < due.length; what++) {
-            check.replica("a leader becomes follower", x, 1, what, due[what]);
-        }
+        check.replica("a leader becomes follower", x, 1, due);
     }
 
     private static void leavesOneOfAGreaterBallot() {
@@ -58,5 +55,24 @@ public final class DenyTest {
         check.replica("still of it", x, 1, 8, 4);
         check.replica("who has answered", x, 1, 9, 2);
         check.replica("SEEN by the deny", x, 1, 10, 2);
+    }
+
+    private static void leavesOneOfTheSameBallot() {
+        SlotPaxos x = new SlotPaxos(3, 2);
+        x.request(1, 6);
+        x.tick(1);
+        x.turn(1, false);
+        x.turn(1, true);
+        x.request(1, 6);
+        x.tick(1);
+        // The prepare with 4 comes ahead of the one with 1, which is denied with 4 then.
+        x.deliver(2);
+        x.deliver(0);
+        check.message("deny", x, 3, 7, 0, 1, 4, 0, 0, 0);
+        Drive.bring(x, Drive.DENY, 0, 1);
+        check.replica("still candidate", x, 1, 7, 1);
+        check.replica("still of it", x, 1, 8, 4);
+        Drive.bring(x, Drive.PROMISE, 0, 1);
+        check.replica("it leads", x, 1, 7, 2);
     }
 }

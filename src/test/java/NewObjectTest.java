@@ -34,9 +34,7 @@ public final class NewObjectTest {
         for (int n = 3; n <= 5; n++) {
             SlotPaxos x = new SlotPaxos(n, 3);
             for (int r = 0; r < n; r++) {
-                for (int what = 0; what < due.length; what++) {
-                    check.replica("new", x, r, what, due[what]);
-                }
+                check.replica("new", x, r, due);
                 check.same("new: slot", x.slot(r, 1), 0);
                 check.same("new: waiting", x.waiting(r, 0), 0);
             }

@@ -20,9 +20,7 @@ public final class PrepareTest {
         check.same("deliver", x.deliver(0), 1);
         check.message("promise", x, 1, 2, 0, 1, 1, 1, 0, 0);
         int[] due = {1, 0, 0, 0, 1, -1, 0, 0, 0, 0, 1, 0, 0};
-        for (int what = 0; what < due.length; what++) {
-            check.replica("promised", x, 0, what, due[what]);
-        }
+        check.replica("promised", x, 0, due);
     }
 
     private static void isPromisedAgain() {
@@ -92,16 +90,12 @@ public final class PrepareTest {
         check.replica("a candidate", x, 2, 7, 1);
         Drive.bring(x, Drive.PREPARE, 0, 1);
         int[] due = {1, 0, 0, 0, 3, 1, 5, 0, 0, 0, 3, 1, 0};
-        for (int what = 0; what < due.length; what++) {
-            check.replica("a leader becomes follower", x, 1, what, due[what]);
-        }
+        check.replica("a leader becomes follower", x, 1, due);
         x.tick(1);
         check.replica("candidate", x, 1, 8, 4);
         Drive.bring(x, Drive.PREPARE, 1, 0);
         int[] follower = {1, 0, 0, 0, 4, -1, 0, 0, 0, 0, 4, 1, 0};
-        for (int what = 0; what < follower.length; what++) {
-            check.replica("a candidate becomes follower", x, 0, what, follower[what]);
-        }
+        check.replica("a candidate becomes follower", x, 0, follower);
     }
 
     private static void helpsOneThatLags() {

@@ -26,9 +26,7 @@ public final class PromiseTest {
                 Drive.bring(x, Drive.PROMISE, other, 0);
             }
             int[] due = {1, 0, 0, 0, n, n, 7, 2, n, 1, n, 2, 7};
-            for (int what = 0; what < due.length; what++) {
-                check.replica("leader of " + n, x, 0, what, due[what]);
-            }
+            check.replica("leader of " + n, x, 0, due);
             int left = n - 1 - needed[n];
             check.inFlight("prepares that are left, and accepts", x, left + n - 1);
             for (int to = 1; to < n; to++) {

@@ -37,9 +37,7 @@ public final class ReplicaTest {
         Drive.bring(x, Drive.ACCEPT, 3, 4);
         Drive.bring(x, Drive.ACCEPTED, 4, 3);
         int[] due = {1, 0, 0, 0, 3, 3, 40, 2, 3, 8 + 16, 3, 2, 40};
-        for (int what = 0; what < due.length; what++) {
-            check.replica("leader", x, 3, what, due[what]);
-        }
+        check.replica("leader", x, 3, due);
     }
 
     private static void tellsWhatIsKeptWhenDown() {
@@ -49,9 +47,7 @@ public final class ReplicaTest {
         x.tick(0);
         x.turn(0, false);
         int[] due = {0, 1, 9, 0, 3, 3, 4, -1, -1, -1, -1, -1, -1};
-        for (int what = 0; what < due.length; what++) {
-            check.replica("down", x, 0, what, due[what]);
-        }
+        check.replica("down", x, 0, due);
     }
 
     private static void tellsWhereItsNumbersBegin() {
@@ -88,9 +84,7 @@ public final class ReplicaTest {
         x.tick(0);
         for (int round = 0; round < 2; round++) {
             int[] due = {1, 0, 0, 0, 3, -1, 0, 1, 3, 1, 0, 1, 0};
-            for (int what = 0; what < due.length; what++) {
-                check.replica("round " + round, x, 0, what, due[what]);
-            }
+            check.replica("round " + round, x, 0, due);
             check.inFlight("round " + round, x, 2);
         }
     }

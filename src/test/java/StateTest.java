@@ -29,9 +29,7 @@ public final class StateTest {
         check.message("state", x, 0, 8, 1, 0, 0, 2, 161, 0);
         check.same("deliver", x.deliver(0), 8);
         int[] due = {1, 2, 161, 2, 0, -1, 0, 0, 0, 0, 0, 1, 0};
-        for (int what = 0; what < due.length; what++) {
-            check.replica("state", x, 0, what, due[what]);
-        }
+        check.replica("state", x, 0, due);
         check.same("slot(0, 1)", x.slot(0, 1), 0);
         check.same("slot(0, 2)", x.slot(0, 2), 0);
         check.same("waiting numbers stay", x.waiting(0, 0), 6);
@@ -45,9 +43,7 @@ public final class StateTest {
         Drive.bring(x, Drive.PREPARE, 0, 1);
         Drive.bring(x, Drive.STATE, 1, 0);
         int[] due = {1, 2, 161, 2, 3, -1, 0, 0, 0, 0, 0, 1, 0};
-        for (int what = 0; what < due.length; what++) {
-            check.replica("a candidate becomes follower", x, 0, what, due[what]);
-        }
+        check.replica("a candidate becomes follower", x, 0, due);
     }
 
     private static void endsALeader() {
@@ -69,9 +65,7 @@ public final class StateTest {
         Drive.bring(x, Drive.ACCEPT, 2, 0);
         Drive.bring(x, Drive.STATE, 0, 2);
         int[] due = {1, 2, 161, 2, 2, -1, 0, 0, 0, 0, 2, 1, 0};
-        for (int what = 0; what < due.length; what++) {
-            check.replica("a leader becomes follower", x, 2, what, due[what]);
-        }
+        check.replica("a leader becomes follower", x, 2, due);
     }
 
     private static void isTooLate() {

@@ -54,9 +54,7 @@ public final class TickTest {
                     }
                 }
                 int[] due = {1, 0, 0, 0, ballot, -1, 0, 1, ballot, 1 << r, 0, 1, 0};
-                for (int what = 0; what < due.length; what++) {
-                    check.replica("campaign of " + r + " of " + n, x, r, what, due[what]);
-                }
+                check.replica("campaign of " + r + " of " + n, x, r, due);
             }
         }
     }
@@ -137,9 +135,7 @@ public final class TickTest {
         check.message("proposed", x, 0, 3, 1, 0, 1, 2, 8, 0);
         check.message("proposed", x, 1, 3, 1, 2, 1, 2, 8, 0);
         int[] due = {1, 1, 6, 0, 1, 1, 8, 2, 1, 2, 1, 2, 8};
-        for (int what = 0; what < due.length; what++) {
-            check.replica("proposes", x, 1, what, due[what]);
-        }
+        check.replica("proposes", x, 1, due);
         check.same("it stays among the waiting", x.waiting(1, 0), 8);
     }
 

@@ -50,9 +50,7 @@ public final class TurnTest {
         int[] due = {0, 3, sum, 1, 1, 1, 8, -1, -1, -1, -1, -1, -1};
         for (int r = 0; r < 2; r++) {
             x.turn(r, false);
-            for (int what = 0; what < due.length; what++) {
-                check.replica("down", x, r, what, due[what]);
-            }
+            check.replica("down", x, r, due);
             check.same("slot(" + r + ", 2)", x.slot(r, 2), 6);
             check.same("slot(" + r + ", 3)", x.slot(r, 3), 7);
             check.same("waiting(" + r + ", 0)", x.waiting(r, 0), 0);
@@ -65,9 +63,7 @@ public final class TurnTest {
         x.turn(1, false);
         x.turn(1, true);
         int[] due = {1, 0, 0, 0, 1, 1, 5, 0, 0, 0, 1, 0, 0};
-        for (int what = 0; what < due.length; what++) {
-            check.replica("a leader behind a restart", x, 1, what, due[what]);
-        }
+        check.replica("a leader behind a restart", x, 1, due);
         check.same("waiting numbers are gone", x.waiting(1, 0), 0);
 
         SlotPaxos y = new SlotPaxos(3, 2);
