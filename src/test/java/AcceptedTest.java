@@ -8,6 +8,8 @@ public final class AcceptedTest {
         countsNobodyTwice();
         countsOnlyItsBallotAndSlot();
         dropsAllThatAreTheNumber();
+        doesNothingToACandidate();
+        learnsOfAKeptNumber();
         check.end();
     }
 
@@ -127,5 +129,32 @@ public final class AcceptedTest {
         Drive.bring(x, Drive.CHOSEN, 1, 0);
         check.replica("and go then", x, 0, 11, 1);
         check.same("waiting(0, 0)", x.waiting(0, 0), 9);
+    }
+
+    /** "if it is LEADER of b": to a candidate, which has campaigned anew, an accepted of before is nothing. */
+    private static void doesNothingToACandidate() {
+        SlotPaxos x = Stories.withKind(Drive.ACCEPTED);
+        int last = x.look(2) - 1;
+        Drive.restart(x, 1);
+        x.request(1, 6);
+        x.tick(1);
+        int sent = x.look(3);
+        check.same("deliver", x.deliver(last), 4);
+        int[] due = {1, 0, 0, 0, 4, 1, 5, 1, 4, 2, 1, 1, 0};
+        check.replica("a candidate", x, 1, due);
+        check.same("nothing is sent", x.look(3), sent);
+    }
+
+    /** What a leader was told by promises, and not its own, is learned; its own waits, and is proposed next. */
+    private static void learnsOfAKeptNumber() {
+        SlotPaxos x = new SlotPaxos(3, 2);
+        Drive.lead(x, 1, 5, 0);
+        Drive.acceptAt(x, 1, 0);
+        Drive.lead(x, 2, 6, 0);
+        check.replica("what is proposed", x, 2, 12, 5);
+        Drive.bring(x, Drive.ACCEPT, 2, 0);
+        Drive.bring(x, Drive.ACCEPTED, 0, 2);
+        int[] due = {1, 1, 5, 0, 2, 2, 6, 2, 2, 4, 2, 1, 6};
+        check.replica("learned, and its own is proposed", x, 2, due);
     }
 }

@@ -1,3 +1,7 @@
+import java.util.List;
+import java.util.function.Consumer;
+import java.util.function.Supplier;
+
 /** Counts and prints the calls whose answer is not the one that is due. */
 final class Check {
     private int wrong;
@@ -36,6 +40,36 @@ final class Check {
 
     void inFlight(String when, SlotPaxos x, int due) {
         same(when + ": look(2)", x.look(2), due);
+    }
+
+    /** The second story leads where the first one leads, in all that can be seen. */
+    void samePicture(String when, Supplier<SlotPaxos> got, Supplier<SlotPaxos> due) {
+        List<String> gotRows = Picture.of(got);
+        List<String> dueRows = Picture.of(due);
+        if (gotRows.equals(dueRows)) {
+            return;
+        }
+        wrong++;
+        int row = 0;
+        while (row < gotRows.size() && row < dueRows.size() && gotRows.get(row).equals(dueRows.get(row))) {
+            row++;
+        }
+        System.out.println(when + ": seen is " + (row < gotRows.size() ? gotRows.get(row) : "no more")
+                + ", due is " + (row < dueRows.size() ? dueRows.get(row) : "no more"));
+    }
+
+    /**
+     * Nothing is changed by the calls: not what can be seen, nor what cannot, for the cluster goes on as if
+     * they had not been made.
+     */
+    void changesNothing(String when, Supplier<SlotPaxos> story, Consumer<SlotPaxos> calls) {
+        Supplier<SlotPaxos> called = () -> {
+            SlotPaxos x = story.get();
+            calls.accept(x);
+            return x;
+        };
+        samePicture(when, called, story);
+        samePicture(when + ", and going on", () -> Drive.goOn(called.get()), () -> Drive.goOn(story.get()));
     }
 
     void end() {

@@ -11,6 +11,8 @@ public final class ChosenTest {
         askIsHelped();
         askOfNothingNewIsStill();
         sumsUp();
+        comesAhead();
+        comesLate();
         check.end();
     }
 
@@ -131,6 +133,64 @@ public final class ChosenTest {
             for (int r = 0; r < 3; r++) {
                 check.replica("behind " + number, x, r, 2, sum);
             }
+        }
+    }
+
+    /** Slot 3 is chosen, by replicas 1 and 0 of 3; replica 2 is up, with that INDEX, and the message is on its way. */
+    private static SlotPaxos thirdIsChosen(int index) {
+        SlotPaxos x = new SlotPaxos(3, 8);
+        for (int slot = 1; slot <= 2; slot++) {
+            if (slot == index + 1) {
+                x.turn(2, false);
+            }
+            Drive.learn(x, 1, 4 + slot);
+        }
+        x.turn(2, true);
+        choose(x, 3, 7);
+        check.replica("INDEX", x, 2, 1, index);
+        return x;
+    }
+
+    private static void choose(SlotPaxos x, int slot, int number) {
+        x.request(1, number);
+        x.tick(1);
+        x.deliver(Drive.placeOf(x, Drive.ACCEPT, 1, 0, slot));
+        x.deliver(Drive.placeOf(x, Drive.ACCEPTED, 0, 1, slot));
+        x.deliver(Drive.placeOf(x, Drive.CHOSEN, 1, 0, slot));
+    }
+
+    /** "if s is INDEX + 1 it LEARNS its number ...; if s is above, ASK with slot INDEX + 1 goes to q". */
+    private static void comesAhead() {
+        for (int index = 0; index <= 2; index++) {
+            SlotPaxos x = thirdIsChosen(index);
+            int sent = x.look(3);
+            Drive.bring(x, Drive.CHOSEN, 1, 2);
+            check.replica("slot 3 at INDEX " + index, x, 2, 1, index == 2 ? 3 : index);
+            check.same("the number of slot 3", x.slot(2, 3), index == 2 ? 7 : 0);
+            check.same("what is sent", x.look(3), index == 2 ? sent : sent + 1);
+            if (index < 2) {
+                check.message("slot 3 at INDEX " + index, x, x.look(2) - 1, 6, 2, 1, 0, index + 1, 0, 0);
+            }
+        }
+    }
+
+    /** The other side: s is INDEX, or below it. */
+    private static void comesLate() {
+        for (int index = 3; index <= 4; index++) {
+            SlotPaxos x = thirdIsChosen(2);
+            x.twice(Drive.place(x, Drive.CHOSEN, 1, 2));
+            Drive.bring(x, Drive.CHOSEN, 1, 2);
+            if (index == 4) {
+                choose(x, 4, 8);
+                x.deliver(Drive.placeOf(x, Drive.CHOSEN, 1, 2, 4));
+            }
+            check.replica("INDEX", x, 2, 1, index);
+            int sum = x.replica(2, 2);
+            int sent = x.look(3);
+            x.deliver(Drive.placeOf(x, Drive.CHOSEN, 1, 2, 3));
+            check.replica("slot 3 at INDEX " + index, x, 2, 1, index);
+            check.replica("slot 3 at INDEX " + index, x, 2, 2, sum);
+            check.same("nothing is sent", x.look(3), sent);
         }
     }
 }

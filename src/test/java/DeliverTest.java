@@ -8,6 +8,9 @@ public final class DeliverTest {
         isGoneWhenTheReceiverIsDown();
         answersWhenThereWere200();
         tellsTheBallot();
+        takesEachPlaceAndNoOther();
+        seesTheGreatestBallot();
+        seesNothingInAMessageWithoutABallot();
         check.end();
     }
 
@@ -79,5 +82,41 @@ public final class DeliverTest {
         check.replica("a lesser one is not SEEN", x, 0, 10, 2);
         Drive.bring(x, Drive.DENY, 0, 1);
         check.replica("SEEN by a deny", x, 1, 10, 2);
+    }
+
+    /** "Message i in FLIGHT, from 0 on ...; NONE if there is none such". */
+    private static void takesEachPlaceAndNoOther() {
+        check.same("deliver(-1)", Stories.inFlight(200).deliver(-1), -1);
+        check.same("deliver(0)", Stories.inFlight(200).deliver(0), 1);
+        check.same("deliver(199) of 200", Stories.inFlight(200).deliver(199), 1);
+        check.same("deliver(200) of 200", Stories.inFlight(200).deliver(200), -1);
+        check.same("deliver(199) of 199", Stories.inFlight(199).deliver(199), -1);
+        check.same("deliver(198) of 199", Stories.inFlight(199).deliver(198), 6);
+    }
+
+    /** "SEEN is b, if that is greater": less, the same, greater. */
+    private static void seesTheGreatestBallot() {
+        for (int ballot = 1; ballot <= 3; ballot++) {
+            SlotPaxos x = new SlotPaxos(5, 2);
+            for (int r = 1; r <= 3; r++) {
+                Drive.lead(x, r, 10 + r);
+            }
+            x.twice(Drive.place(x, Drive.PREPARE, 2, 4));
+            Drive.bring(x, Drive.PREPARE, 2, 4);
+            check.replica("SEEN", x, 4, 10, 2);
+            Drive.bring(x, Drive.PREPARE, ballot, 4);
+            check.replica("SEEN behind " + ballot, x, 4, 10, Math.max(2, ballot));
+        }
+    }
+
+    private static void seesNothingInAMessageWithoutABallot() {
+        for (int kind : new int[] {Drive.CHOSEN, Drive.ASK, Drive.STATE}) {
+            SlotPaxos x = Stories.withKind(kind);
+            int last = x.look(2) - 1;
+            int to = x.message(last, 2);
+            int seen = x.replica(to, 10);
+            x.deliver(last);
+            check.replica("SEEN behind kind " + kind, x, to, 10, seen);
+        }
     }
 }

@@ -25,6 +25,17 @@ final class Drive {
         x.deliver(place(x, kind, from, to));
     }
 
+    /** The place of the first such message of that slot. */
+    static int placeOf(SlotPaxos x, int kind, int from, int to, int slot) {
+        for (int i = place(x, kind, from, to); i < x.look(2); i++) {
+            if (x.message(i, 4) == slot && x.message(i, 0) == kind && x.message(i, 1) == from
+                    && x.message(i, 2) == to) {
+                return i;
+            }
+        }
+        throw new IllegalStateException("no message of kind " + kind + " from " + from + " to " + to + " of " + slot);
+    }
+
     static void loseAll(SlotPaxos x) {
         while (x.lose(0)) {
             continue;
@@ -58,5 +69,26 @@ final class Drive {
         x.request(r, number);
         x.tick(r);
         settle(x);
+    }
+
+    /** Replica r goes down and comes up again. */
+    static void restart(SlotPaxos x, int r) {
+        x.turn(r, false);
+        x.turn(r, true);
+    }
+
+    /** Some calls more, the same whatever has been: what is hidden in the cluster comes to light by them. */
+    static SlotPaxos goOn(SlotPaxos x) {
+        for (int round = 0; round < 3; round++) {
+            for (int i = 0; i < 20; i++) {
+                x.deliver(0);
+            }
+            for (int r = 0; r < 5; r++) {
+                x.turn(r, true);
+                x.request(r, 70 + r);
+                x.tick(r);
+            }
+        }
+        return x;
     }
 }

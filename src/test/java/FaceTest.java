@@ -24,6 +24,13 @@ public final class FaceTest {
     };
 
     public static void main(String[] args) {
+        isTheFaceAlone();
+        namesNothingLikeTheFace();
+        hasNoStateOfAll();
+        check.end();
+    }
+
+    private static void isTheFaceAlone() {
         TreeSet<String> seen = new TreeSet<>();
         for (Method method : SlotPaxos.class.getDeclaredMethods()) {
             if (!Modifier.isPrivate(method.getModifiers()) && !method.isSynthetic()) {
@@ -46,6 +53,34 @@ public final class FaceTest {
         }
         int modifiers = SlotPaxos.class.getModifiers();
         check.same("public and final", Modifier.isPublic(modifiers) && Modifier.isFinal(modifiers), true);
-        check.end();
+    }
+
+    /** LANGUAGE.md, rule 1: "No private method bears the name of a public one". */
+    private static void namesNothingLikeTheFace() {
+        for (Method method : SlotPaxos.class.getDeclaredMethods()) {
+            for (Method other : SlotPaxos.class.getDeclaredMethods()) {
+                boolean clash = Modifier.isPublic(method.getModifiers()) && Modifier.isPrivate(other.getModifiers())
+                        && method.getName().equals(other.getName());
+                check.same(other.toGenericString(), clash, false);
+            }
+        }
+    }
+
+    /** LANGUAGE.md, rules 1, 2 and 5: classes inside are static, not public, and static fields are constants. */
+    private static void hasNoStateOfAll() {
+        for (Class<?> inside : SlotPaxos.class.getDeclaredClasses()) {
+            int modifiers = inside.getModifiers();
+            check.same(inside + " is static", Modifier.isStatic(modifiers), true);
+            check.same(inside + " is open", Modifier.isPublic(modifiers) || Modifier.isProtected(modifiers), false);
+            staticsAreFinal(inside);
+        }
+        staticsAreFinal(SlotPaxos.class);
+    }
+
+    private static void staticsAreFinal(Class<?> one) {
+        for (Field field : one.getDeclaredFields()) {
+            boolean changes = Modifier.isStatic(field.getModifiers()) && !Modifier.isFinal(field.getModifiers());
+            check.same(field.toGenericString(), changes, false);
+        }
     }
 }

@@ -8,6 +8,8 @@ public final class LookTest {
         countsThoseLostAt200();
         fillsUpLeastFirst();
         tellsTheGreatestIndex();
+        takesEachWhichAndNoOther();
+        tellsTheGreatestOfEach();
         check.end();
     }
 
@@ -84,5 +86,31 @@ public final class LookTest {
         check.same("of the last", x.look(5), 1);
         x.turn(2, false);
         check.same("of one that is down", x.look(5), 1);
+    }
+
+    private static void takesEachWhichAndNoOther() {
+        SlotPaxos x = Stories.inFlight(201);
+        int[] due = {-1, 5, 2, 200, 201, 1, 0, -1};
+        for (int which = -1; which <= 6; which++) {
+            check.same("look(" + which + ")", x.look(which), due[which + 1]);
+        }
+    }
+
+    /** "5: the greatest INDEX of all REPLICAS": whoever has it, and also by a state. */
+    private static void tellsTheGreatestOfEach() {
+        for (int n = 3; n <= 5; n++) {
+            for (int r = 0; r < n; r++) {
+                SlotPaxos x = new SlotPaxos(n, 2);
+                Drive.lead(x, r, 5);
+                while (x.replica(r, 1) == 0) {
+                    x.deliver(0);
+                }
+                check.same("learned by " + r + " of " + n + " alone", x.look(5), 1);
+                check.replica("learned by " + r + " alone", x, r == 0 ? 1 : 0, 1, 0);
+                x.turn(r, false);
+                check.same("also when it is down", x.look(5), 1);
+            }
+        }
+        check.same("behind a state", Stories.behindAState().look(5), 2);
     }
 }

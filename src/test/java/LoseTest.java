@@ -5,6 +5,7 @@ public final class LoseTest {
     public static void main(String[] args) {
         losesTheMessage();
         refusesWrongPlaces();
+        losesAt200();
         check.end();
     }
 
@@ -43,5 +44,22 @@ public final class LoseTest {
         check.inFlight("refused", x, 1);
         check.same("lose(0)", x.lose(0), true);
         check.same("lose(0) again", x.lose(0), false);
+    }
+
+    /** "Message i is lost: true; false if there is none such": the last of 200, and the one behind it. */
+    private static void losesAt200() {
+        SlotPaxos x = Stories.inFlight(200);
+        check.same("lose(200)", x.lose(200), false);
+        check.inFlight("refused", x, 200);
+        check.same("lose(199)", x.lose(199), true);
+        check.inFlight("lost", x, 199);
+        check.same("lose(199) of 199", x.lose(199), false);
+        check.same("lose(-1)", x.lose(-1), false);
+        check.same("lose(0)", x.lose(0), true);
+        check.message("the second is the first now", x, 0, 1, 2, 1, 2, 1, 0, 0);
+        check.message("the last", x, 197, 1, 2, 3, 2, 1, 0, 0);
+        check.same("behind the last", x.message(198, 0), -1);
+        check.same("look(3)", x.look(3), 200);
+        check.same("look(4)", x.look(4), 0);
     }
 }

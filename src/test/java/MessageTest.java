@@ -6,6 +6,7 @@ public final class MessageTest {
         tellsEachKind();
         refusesWhatIsNot();
         tellsAStateOfMinusOne();
+        tellsTheLastOf200();
         check.end();
     }
 
@@ -64,5 +65,19 @@ public final class MessageTest {
         x.tick(0);
         x.deliver(0);
         check.message("state", x, 0, 8, 1, 0, 0, 2, -1, 0);
+    }
+
+    private static void tellsTheLastOf200() {
+        SlotPaxos x = Stories.inFlight(200);
+        check.message("the first", x, 0, 1, 2, 0, 2, 1, 0, 0);
+        check.message("the last", x, 199, 1, 2, 4, 2, 1, 0, 0);
+        for (int what = -1; what <= 7; what++) {
+            check.same("message(200, " + what + ")", x.message(200, what), -1);
+            check.same("message(-1, " + what + ")", x.message(-1, what), -1);
+        }
+        for (int i : new int[] {0, 100, 199}) {
+            check.same("message(" + i + ", -1)", x.message(i, -1), -1);
+            check.same("message(" + i + ", 7)", x.message(i, 7), -1);
+        }
     }
 }

@@ -1,14 +1,19 @@
+import java.util.ArrayList;
 import java.util.Arrays;
+import java.util.List;
 import java.util.Random;
+import java.util.function.Consumer;
 
 /**
- * Promises 1 to 12 over many runs of 512 calls: every answer is held against that of Model, and
- * replicas that have learned as many slots have learned the same ones (that is what ballots are for).
+ * Promises 1 to 12 over many runs: every answer is held against that of Model, and replicas that have
+ * learned as many slots have learned the same ones (that is what ballots are for). Every other run goes on
+ * to the 512th call; the others end ahead of that, and all is looked at then.
  */
 public final class ModelTest {
     private static final Check check = new Check();
     private static final int RUNS = 6000;
     private static final int CALLS = 512;
+    private static final int CALLS_BEFORE_LOOKS = 400;
     private static final int[] ODD = {-1, 5, 13, 200, 1000, Integer.MIN_VALUE, Integer.MAX_VALUE};
 
     /** Of 100 calls: request, tick, deliver, lose, twice, turn; the rest only looks. */
@@ -25,8 +30,13 @@ public final class ModelTest {
     private final int run;
     private final Random random;
     private final int[] mix;
-    private final SlotPaxos x;
+    private final int replicas;
+    private final int kept;
     private final Model model;
+    /** What was called, but for looks: so that a new object can be brought there when one has had its 512 calls. */
+    private final List<Consumer<SlotPaxos>> made = new ArrayList<>();
+    private SlotPaxos x;
+    private int calls;
     private final int widest;
     private final int readyUp;
     /** Of 100 requests and ticks, so many are of replica 0: without a steady leader few slots are learned. */
@@ -36,8 +46,8 @@ public final class ModelTest {
         this.run = run;
         random = new Random(run);
         mix = MIXES[run % MIXES.length];
-        int replicas = 2 + random.nextInt(5);
-        int kept = random.nextInt(4) == 0 ? random.nextInt(40) : random.nextInt(5);
+        replicas = 2 + random.nextInt(5);
+        kept = random.nextInt(4) == 0 ? random.nextInt(40) : random.nextInt(5);
         widest = random.nextBoolean() ? 1 : 1 + random.nextInt(200);
         readyUp = 1 + random.nextInt(100);
         steady = random.nextInt(3) == 0 ? 95 : random.nextInt(90);
@@ -52,10 +62,13 @@ public final class ModelTest {
     public static void main(String[] args) {
         for (int run = 0; run < RUNS; run++) {
             ModelTest test = new ModelTest(run);
-            for (int call = 0; call < CALLS; call++) {
+            boolean looks = run % 2 == 0;
+            for (int call = 0; call < (looks ? CALLS_BEFORE_LOOKS : CALLS); call++) {
                 test.callOnce();
             }
-            test.lookAtAll();
+            if (looks) {
+                test.lookAtAll();
+            }
             runsWithOverflow += test.model.overflow > 0 ? 1 : 0;
             deepest = Math.max(deepest, test.model.look(5));
         }
@@ -111,31 +124,37 @@ public final class ModelTest {
     }
 
     private void request(int r, int number) {
-        same("request", r, number, x.request(r, number) ? 1 : 0, model.request(r, number) ? 1 : 0);
+        made.add(y -> y.request(r, number));
+        same("request", r, number, next().request(r, number) ? 1 : 0, model.request(r, number) ? 1 : 0);
     }
 
     private void tick(int r) {
-        same("tick", r, 0, x.tick(r), model.tick(r));
+        made.add(y -> y.tick(r));
+        same("tick", r, 0, next().tick(r), model.tick(r));
     }
 
     private void deliver(int i) {
         int kind = model.deliver(i);
-        same("deliver", i, 0, x.deliver(i), kind);
+        made.add(y -> y.deliver(i));
+        same("deliver", i, 0, next().deliver(i), kind);
         if (kind > 0) {
             kinds[kind]++;
         }
     }
 
     private void lose(int i) {
-        same("lose", i, 0, x.lose(i) ? 1 : 0, model.lose(i) ? 1 : 0);
+        made.add(y -> y.lose(i));
+        same("lose", i, 0, next().lose(i) ? 1 : 0, model.lose(i) ? 1 : 0);
     }
 
     private void twice(int i) {
-        same("twice", i, 0, x.twice(i) ? 1 : 0, model.twice(i) ? 1 : 0);
+        made.add(y -> y.twice(i));
+        same("twice", i, 0, next().twice(i) ? 1 : 0, model.twice(i) ? 1 : 0);
     }
 
     private void turn(int r, boolean up) {
-        same("turn", r, up ? 1 : 0, x.turn(r, up) ? 1 : 0, model.turn(r, up) ? 1 : 0);
+        made.add(y -> y.turn(r, up));
+        same("turn", r, up ? 1 : 0, next().turn(r, up) ? 1 : 0, model.turn(r, up) ? 1 : 0);
     }
 
     private void lookOnce() {
@@ -150,26 +169,38 @@ public final class ModelTest {
     }
 
     private void lookAtReplica(int r, int what) {
-        same("replica", r, what, x.replica(r, what), model.replica(r, what));
+        same("replica", r, what, next().replica(r, what), model.replica(r, what));
     }
 
     private void lookAtSlot(int r, int slot) {
-        same("slot", r, slot, x.slot(r, slot), model.slot(r, slot));
+        same("slot", r, slot, next().slot(r, slot), model.slot(r, slot));
     }
 
     private void lookAtWaiting(int r, int i) {
-        same("waiting", r, i, x.waiting(r, i), model.waiting(r, i));
+        same("waiting", r, i, next().waiting(r, i), model.waiting(r, i));
     }
 
     private void lookAtMessage(int i, int what) {
-        same("message", i, what, x.message(i, what), model.message(i, what));
+        same("message", i, what, next().message(i, what), model.message(i, what));
     }
 
     private void look(int which) {
-        same("look", which, 0, x.look(which), model.look(which));
+        same("look", which, 0, next().look(which), model.look(which));
     }
 
-    /** Behind the 512th call an answer is free; this class keeps its word there too, so all is looked at. */
+    /** The object for the next call. */
+    private SlotPaxos next() {
+        if (calls == CALLS) {
+            x = new SlotPaxos(replicas, kept);
+            for (Consumer<SlotPaxos> one : made) {
+                one.accept(x);
+            }
+            calls = made.size();
+        }
+        calls++;
+        return x;
+    }
+
     private void lookAtAll() {
         for (int which = -1; which <= 6; which++) {
             look(which);
@@ -185,8 +216,8 @@ public final class ModelTest {
                 lookAtWaiting(r, i);
             }
             for (int other = 0; other < r; other++) {
-                if (x.replica(r, 1) == x.replica(other, 1)) {
-                    same("SUM of two with the same INDEX", r, other, x.replica(r, 2), x.replica(other, 2));
+                if (next().replica(r, 1) == next().replica(other, 1)) {
+                    same("SUM of two with the same INDEX", r, other, next().replica(r, 2), next().replica(other, 2));
                 }
             }
         }

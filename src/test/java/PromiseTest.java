@@ -9,6 +9,9 @@ public final class PromiseTest {
         takesTheGreatestAccepted();
         takesItsOwnAccepted();
         leadsOnWithoutANumber();
+        keepsNothingOfLesserBallots();
+        takesItsOwnAlone();
+        doesNothingToAFollowerOrLeader();
         check.end();
     }
 
@@ -121,5 +124,52 @@ public final class PromiseTest {
         check.replica("nothing is proposed", x, 1, 12, 0);
         check.replica("nobody has answered", x, 1, 9, 0);
         check.replica("nothing is accepted", x, 1, 5, -1);
+    }
+
+    /** "of all ACCEPTED ones that were told (its own, too) it keeps the one with the greatest BALLOT": its own is less. */
+    private static void keepsNothingOfLesserBallots() {
+        SlotPaxos x = new SlotPaxos(5, 2);
+        Drive.lead(x, 1, 11, 0, 4);
+        Drive.loseAll(x);
+        Drive.lead(x, 2, 12, 0, 4);
+        Drive.loseAll(x);
+        // Replica 1 has accepted 11 with 1, replica 2 has accepted 12 with 2.
+        Drive.restart(x, 1);
+        Drive.lead(x, 1, 13, 3, 2);
+        int[] due = {1, 0, 0, 0, 6, 6, 12, 2, 6, 2, 6, 1, 12};
+        check.replica("what it was told is greater", x, 1, due);
+        check.same("its own waits", x.waiting(1, 0), 13);
+    }
+
+    /** "it alone has answered, with its ACCEPTED one": the others have accepted nothing. */
+    private static void takesItsOwnAlone() {
+        SlotPaxos x = new SlotPaxos(3, 2);
+        Drive.lead(x, 1, 11, 0);
+        Drive.restart(x, 1);
+        Drive.loseAll(x);
+        Drive.lead(x, 1, 13, 2);
+        int[] due = {1, 0, 0, 0, 4, 4, 11, 2, 4, 2, 4, 1, 11};
+        check.replica("its own is proposed again", x, 1, due);
+        check.message("accept", x, x.look(2) - 1, 3, 1, 2, 4, 1, 11, 0);
+    }
+
+    /** "if it is CANDIDATE of b": to a follower it only tells the ballot, to a leader of b nothing new. */
+    private static void doesNothingToAFollowerOrLeader() {
+        SlotPaxos x = Stories.withKind(Drive.PROMISE);
+        int last = x.look(2) - 1;
+        x.twice(last);
+        Drive.restart(x, 1);
+        x.deliver(last);
+        int[] follower = {1, 0, 0, 0, 1, -1, 0, 0, 0, 0, 1, 0, 0};
+        check.replica("a follower", x, 1, follower);
+        SlotPaxos z = Stories.withKind(Drive.PROMISE);
+        z.twice(last);
+        z.deliver(last);
+        check.replica("a leader", z, 1, 7, 2);
+        int sent = z.look(3);
+        z.deliver(last);
+        int[] leader = {1, 0, 0, 0, 1, 1, 5, 2, 1, 2, 1, 1, 5};
+        check.replica("a leader", z, 1, leader);
+        check.same("nothing is sent", z.look(3), sent);
     }
 }

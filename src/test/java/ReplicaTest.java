@@ -9,6 +9,8 @@ public final class ReplicaTest {
         tellsWhereItsNumbersBegin();
         tellsASumOfMinusOne();
         changesNothing();
+        takesEachWhatAndNoOther();
+        tellsWhatHasNoNumbers();
         check.end();
     }
 
@@ -87,5 +89,38 @@ public final class ReplicaTest {
             check.replica("round " + round, x, 0, due);
             check.inFlight("round " + round, x, 2);
         }
+    }
+
+    /** "7 to 12: NONE if it is DOWN. NONE if there is no such REPLICA, or what." */
+    private static void takesEachWhatAndNoOther() {
+        for (int n = 3; n <= 5; n++) {
+            for (int what = -1; what <= 13; what++) {
+                SlotPaxos x = new SlotPaxos(n, 2);
+                Drive.learn(x, n - 1, 9);
+                boolean isOne = what >= 0 && what <= 12;
+                check.replica("no such replica", x, -1, what, -1);
+                check.replica("no such replica", x, n, what, -1);
+                check.same("the last replica, what " + what, x.replica(n - 1, what) != -1, isOne && what != 5);
+                x.turn(n - 1, false);
+                check.same("down, what " + what, x.replica(n - 1, what) != -1, isOne && what < 7 && what != 5);
+            }
+        }
+    }
+
+    /** "3: the slot ahead of the first number that it keeps, or, if it keeps none, INDEX". */
+    private static void tellsWhatHasNoNumbers() {
+        check.replica("none, for nothing is learned", new SlotPaxos(3, 4), 0, 3, 0);
+        check.replica("none, behind a state", Stories.behindAState(), 0, 3, 2);
+        check.replica("one, for L is 1", Stories.behindAState(), 1, 3, 1);
+        SlotPaxos x = Stories.twoAhead();
+        x.tick(0);
+        Drive.settle(x);
+        check.replica("none, behind a state", x, 0, 3, 2);
+        Drive.learn(x, 1, 7);
+        check.replica("one, behind a state", x, 0, 1, 3);
+        check.replica("one, behind a state", x, 0, 3, 2);
+        Drive.learn(x, 1, 8);
+        check.replica("one, for L is 1", x, 0, 1, 4);
+        check.replica("one, for L is 1", x, 0, 3, 3);
     }
 }

@@ -8,6 +8,8 @@ public final class RequestTest {
         refusesWrongReplicas();
         refusesWhenDown();
         takesTheSameAgain();
+        hasRoomAgain();
+        takesEachReplicaAndNoOther();
         check.end();
     }
 
@@ -69,5 +71,43 @@ public final class RequestTest {
         Drive.settle(x);
         check.replica("it is learned once more", x, 0, 1, 2);
         check.same("slot(0, 2)", x.slot(0, 2), 5);
+    }
+
+    /** "false if ... it ... has 8": with 8 there is no room, with one learned there is. */
+    private static void hasRoomAgain() {
+        SlotPaxos x = new SlotPaxos(3, 2);
+        for (int i = 1; i <= 7; i++) {
+            check.same("request " + i, x.request(0, i), true);
+        }
+        check.same("the eighth", x.request(0, 8), true);
+        check.same("the ninth", x.request(0, 9), false);
+        x.tick(0);
+        check.same("a candidate with 8", x.request(0, 9), false);
+        Drive.bring(x, Drive.PREPARE, 0, 1);
+        Drive.bring(x, Drive.PROMISE, 1, 0);
+        check.same("a leader with 8", x.request(0, 9), false);
+        check.same("the last", x.waiting(0, 7), 8);
+        Drive.bring(x, Drive.ACCEPT, 0, 1);
+        Drive.bring(x, Drive.ACCEPTED, 1, 0);
+        check.replica("one is learned", x, 0, 11, 7);
+        check.same("the eighth", x.request(0, 9), true);
+        check.same("the ninth", x.request(0, 10), false);
+        check.same("the last", x.waiting(0, 7), 9);
+        // What waits is gone behind a restart, and there is room for 8.
+        Drive.restart(x, 0);
+        for (int i = 1; i <= 8; i++) {
+            check.same("request " + i, x.request(0, i), true);
+        }
+        check.same("the ninth", x.request(0, 9), false);
+    }
+
+    private static void takesEachReplicaAndNoOther() {
+        for (int n = 3; n <= 5; n++) {
+            SlotPaxos x = new SlotPaxos(n, 2);
+            check.same("request(-1, 5) of " + n, x.request(-1, 5), false);
+            check.same("request(0, 5) of " + n, x.request(0, 5), true);
+            check.same("request(n - 1, 5) of " + n, x.request(n - 1, 5), true);
+            check.same("request(n, 5) of " + n, x.request(n, 5), false);
+        }
     }
 }

@@ -6,6 +6,7 @@ public final class SlotTest {
         keepsTheLast();
         refusesWhatIsNot();
         isKeptWhenDown();
+        keepsNothingAheadOrBehind();
         check.end();
     }
 
@@ -61,5 +62,28 @@ public final class SlotTest {
         check.same("down", x.slot(0, 1), 7);
         x.turn(0, true);
         check.same("up again", x.slot(0, 1), 7);
+    }
+
+    /** "0 if it keeps none such": ahead of the first that is kept, behind INDEX, and far off by a whole row of them. */
+    private static void keepsNothingAheadOrBehind() {
+        SlotPaxos x = new SlotPaxos(3, 2);
+        for (int number = 5; number <= 8; number++) {
+            Drive.learn(x, 0, number);
+        }
+        int[] due = {0, 0, 0, 7, 8, 0, 0};
+        for (int slot = 0; slot <= 6; slot++) {
+            check.same("slot(1, " + slot + ")", x.slot(1, slot), due[slot]);
+        }
+        for (int off : new int[] {2, 4, 8, 16, 32, 64, 1 << 30, 1 << 31}) {
+            check.same("slot(1, 4 + " + off + ")", x.slot(1, 4 + off), 0);
+            check.same("slot(1, 4 - " + off + ")", x.slot(1, 4 - off), 0);
+        }
+        SlotPaxos y = Stories.behindAState();
+        for (int slot = -1; slot <= 3; slot++) {
+            check.same("behind a state: slot(0, " + slot + ")", y.slot(0, slot), 0);
+        }
+        check.same("the last replica", x.slot(2, 4), 8);
+        check.same("behind the last replica", x.slot(3, 4), 0);
+        check.same("ahead of the first replica", x.slot(-1, 4), 0);
     }
 }

@@ -11,6 +11,9 @@ public final class TickTest {
         leaderAcceptsAgain();
         leaderWithoutOneProposes();
         leaderWithoutNumbersIsStill();
+        followerAsksTheNextOfAny();
+        takesEachReplicaAndNoOther();
+        tellsHowManyAreInFlight();
         check.end();
     }
 
@@ -146,5 +149,42 @@ public final class TickTest {
         check.replica("still leader", x, 1, 7, 2);
         check.replica("nothing proposed", x, 1, 12, 0);
         check.replica("nobody has answered", x, 1, 9, 0);
+    }
+
+    /** "sends ASK (6) with slot INDEX + 1 to the next REPLICA (the one behind the last is 0)". */
+    private static void followerAsksTheNextOfAny() {
+        for (int n = 3; n <= 5; n++) {
+            SlotPaxos x = new SlotPaxos(n, 2);
+            for (int r = 0; r < n - 1; r++) {
+                check.same("tick(" + r + ")", x.tick(r), r + 1);
+                check.message("ask of " + r + " of " + n, x, r, 6, r, r + 1, 0, 1, 0, 0);
+            }
+            check.same("tick of the last", x.tick(n - 1), n);
+            check.message("ask of the last of " + n, x, n - 1, 6, n - 1, 0, 0, 1, 0, 0);
+        }
+    }
+
+    /** "NONE if there is no such REPLICA". */
+    private static void takesEachReplicaAndNoOther() {
+        for (int n = 3; n <= 5; n++) {
+            SlotPaxos x = new SlotPaxos(n, 2);
+            check.same("tick(-1) of " + n, x.tick(-1), -1);
+            check.same("tick(0) of " + n, x.tick(0), 1);
+            check.same("tick(n - 1) of " + n, x.tick(n - 1), 2);
+            check.same("tick(n) of " + n, x.tick(n), -1);
+            x.turn(n - 1, false);
+            check.same("tick of one that is down", x.tick(n - 1), -1);
+            x.turn(n - 1, true);
+            check.same("tick of one that is up again", x.tick(n - 1), 3);
+        }
+    }
+
+    /** "how many messages are in FLIGHT then": also those of before, none, and 200. */
+    private static void tellsHowManyAreInFlight() {
+        check.same("none", Stories.idleLeader().tick(2), 0);
+        check.same("at 198", Stories.inFlight(198).tick(4), 199);
+        check.same("at 199", Stories.inFlight(199).tick(4), 200);
+        check.same("at 200", Stories.inFlight(200).tick(4), 200);
+        check.same("four at 197", Stories.inFlight(197).tick(2), 200);
     }
 }

@@ -1,3 +1,6 @@
+import java.util.Map;
+import java.util.function.Supplier;
+
 /** Promise 7. */
 public final class TurnTest {
     private static final Check check = new Check();
@@ -8,6 +11,8 @@ public final class TurnTest {
         keepsWhatIsKept();
         beginsAsFollower();
         leavesItsMessages();
+        takesEachReplicaAndNoOther();
+        keepsInAnyState();
         check.end();
     }
 
@@ -101,5 +106,48 @@ public final class TurnTest {
         check.same("it comes", x.deliver(1), 2);
         check.replica("it is SEEN", x, 1, 10, 1);
         check.replica("it leads nobody", x, 1, 7, 0);
+    }
+
+    private static void takesEachReplicaAndNoOther() {
+        for (int n = 3; n <= 5; n++) {
+            for (boolean up : new boolean[] {false, true}) {
+                SlotPaxos x = new SlotPaxos(n, 2);
+                check.same("turn(-1) of " + n, x.turn(-1, up), false);
+                check.same("turn(n) of " + n, x.turn(n, up), false);
+                check.same("turn(0) of " + n, x.turn(0, up), !up);
+                check.same("turn(n - 1) of " + n, x.turn(n - 1, up), !up);
+                for (int r = 0; r < n; r++) {
+                    check.replica("turned", x, r, 0, !up && (r == 0 || r == n - 1) ? 0 : 1);
+                }
+            }
+        }
+    }
+
+    /** "It keeps, also when it is DOWN"; "Only as long as it is UP"; "FOLLOWER (at first, and behind a restart)". */
+    private static void keepsInAnyState() {
+        for (Map.Entry<String, Supplier<SlotPaxos>> entry : Stories.all().entrySet()) {
+            int n = entry.getValue().get().look(0);
+            for (int r = 0; r < n; r++) {
+                SlotPaxos x = entry.getValue().get();
+                x.turn(r, true);
+                int[] row = new int[13];
+                for (int what = 1; what <= 6; what++) {
+                    row[what] = x.replica(r, what);
+                }
+                int slot = x.slot(r, row[1]);
+                x.turn(r, false);
+                for (int what = 7; what <= 12; what++) {
+                    row[what] = -1;
+                }
+                check.replica(entry.getKey() + ", down", x, r, row);
+                check.same(entry.getKey() + ", down: slot", x.slot(r, row[1]), slot);
+                check.same(entry.getKey() + ", down: waiting", x.waiting(r, 0), 0);
+                x.turn(r, true);
+                int[] again = {1, row[1], row[2], row[3], row[4], row[5], row[6], 0, 0, 0, row[4], 0, 0};
+                check.replica(entry.getKey() + ", up again", x, r, again);
+                check.same(entry.getKey() + ", up again: slot", x.slot(r, row[1]), slot);
+                check.same(entry.getKey() + ", up again: waiting", x.waiting(r, 0), 0);
+            }
+        }
     }
 }

@@ -6,6 +6,7 @@ public final class WaitingTest {
         tellsThemInOrder();
         refusesWhatIsNot();
         isGoneWhenDown();
+        tellsEachOfEight();
         check.end();
     }
 
@@ -54,5 +55,20 @@ public final class WaitingTest {
         x.turn(0, true);
         check.same("up again", x.waiting(0, 0), 0);
         check.replica("up again", x, 0, 11, 0);
+    }
+
+    /** "WAITING number i of a REPLICA, from 0 on; 0 if there is none such": of 0, 1, 7 and 8. */
+    private static void tellsEachOfEight() {
+        SlotPaxos x = new SlotPaxos(3, 2);
+        for (int count = 0; count <= 8; count++) {
+            check.same("waiting(2, -1) of " + count, x.waiting(2, -1), 0);
+            for (int i = 0; i <= 9; i++) {
+                check.same("waiting(2, " + i + ") of " + count, x.waiting(2, i), i < count ? 30 + i : 0);
+            }
+            x.request(2, 30 + count);
+        }
+        check.same("waiting(3, 0)", x.waiting(3, 0), 0);
+        check.same("waiting(-1, 0)", x.waiting(-1, 0), 0);
+        check.same("waiting(1, 0)", x.waiting(1, 0), 0);
     }
 }
